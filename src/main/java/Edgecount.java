@@ -208,7 +208,7 @@ public final class Edgecount {
 
     public int plain(int to, int a, int b) throws IndexOutOfBoundsException {
         checkCells(to, a, b);
-        return writeWide(to, now.wideCells[a] * now.wideCells[b]);
+        return writeWide(to, outcome(PRODUCT, now.wideCells[a], now.wideCells[b]));
     }
 
     // ---- what lies there, and what would be
@@ -246,7 +246,7 @@ public final class Edgecount {
         checkCells(a, b);
         long x = now.wideCells[a];
         long y = now.wideCells[b];
-        return isHigh ? upperHalf(x, y) : x * y;
+        return isHigh ? upperHalf(x, y) : outcome(PRODUCT, x, y);
     }
 
     public int mean(int a, int b) throws IndexOutOfBoundsException {
@@ -716,10 +716,17 @@ public final class Edgecount {
         // Twice these is the sum and the difference, less what is odd: they can't go round.
         long halfSum = (x >> 1) + (y >> 1) + (x & y & 1);
         long halfDifference = (x >> 1) - (y >> 1) - (~x & y & 1);
+        long odd = (x ^ y) & 1;
+        // The product is made once more, limb by limb and without its sign.
+        multiplied.multiply(x, y);
+        long lower = multiplied.lower();
+        long upper = multiplied.upper();
         return isWideDivisionSound(x, y)
-                && isWideKept(SUM, x, y, isHalfOfWide(halfSum), (halfSum << 1) + ((x ^ y) & 1))
-                && isWideKept(DIFFERENCE, x, y, isHalfOfWide(halfDifference), (halfDifference << 1) + ((x ^ y) & 1))
-                && isWideProductSound(x, y)
+                && isWideKept(SUM, x, y, isHalfOfWide(halfSum), (halfSum << 1) + odd)
+                && isWideKept(DIFFERENCE, x, y, isHalfOfWide(halfDifference), (halfDifference << 1) + odd)
+                && isWideKept(PRODUCT, x, y, upper == signHalf(lower), lower)
+                && upperHalf(x, y) == upper
+                && outcome(PRODUCT, x, y) == lower
                 && isMeanSound(wideMean(x, y), x, y);
     }
 
@@ -753,15 +760,6 @@ public final class Edgecount {
         // Taking LEAST off both compares them as numbers without a sign.
         long carry = sum - Long.MIN_VALUE < lower - Long.MIN_VALUE ? 1 : 0;
         return sum == n && upperHalf(quotient, y) + signHalf(remainder) + carry == signHalf(n);
-    }
-
-    private boolean isWideProductSound(long x, long y) {
-        multiplied.multiply(x, y);
-        long lower = multiplied.lower();
-        long upper = multiplied.upper();
-        return upperHalf(x, y) == upper
-                && x * y == lower
-                && isWideKept(PRODUCT, x, y, upper == signHalf(lower), lower);
     }
 
     /** All that undoing brings back. */

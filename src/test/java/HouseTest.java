@@ -133,7 +133,8 @@ public final class HouseTest {
         Calls.due(new Edgecount(), digestOfNew(), "digest");
         Edgecount house = Calls.narrows(GREATEST, LEAST, -1, 0, 46341, -7);
         house.putWide(0, LEAST, 0);
-        house.putWide(1, -1, -1);
+        house.putWide(1, 0, 5);
+        house.putWide(2, -1, -1);
         house.enter(5);
         house.enter(LEAST);
         house.knock();
@@ -177,7 +178,8 @@ public final class HouseTest {
             model.answer("put", cell, narrows[cell]);
         }
         model.answer("putWide", 0, LEAST, 0);
-        model.answer("putWide", 1, -1, -1);
+        model.answer("putWide", 1, 0, 5);
+        model.answer("putWide", 2, -1, -1);
         model.answer("enter", 5);
         model.answer("enter", LEAST);
         model.answer("knock");
