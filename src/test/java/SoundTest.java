@@ -88,6 +88,10 @@ public final class SoundTest {
             + "return y == 0 ? 0 : x == y ? y : Math.floorMod(x, y);", 5);
         wide(QUOTIENT + REMAINDER, "return y == 0 ? 0 : x == y ? 0 : Math.floorDiv(x, y);"
             + "return y == 0 ? 0 : x == y ? y : Math.floorMod(x, y);", -5);
+        wide(QUOTIENT + REMAINDER, "return y == 0 ? 0 : x == y ? 0 : Math.floorDiv(x, y);"
+            + "return y == 0 ? 0 : x == y ? y : Math.floorMod(x, y);", 5);
+        // Right as it goes round alone: twice the QUOTIENT differs from what is due by 2^64.
+        wide(QUOTIENT, "return y == 0 ? 0 : Math.floorDiv(x, y) ^ (y == 2 ? Long.MIN_VALUE : 0);", 7, 2);
         // what over() would write is QUOTIENT, as it GOES ROUND: LEAST by -1
         String kept = "return y == 0 ? 0 : x == Long.MIN_VALUE && y == -1 ? Long.MAX_VALUE : Math.floorDiv(x, y);";
         wide(QUOTIENT, kept, Long.MIN_VALUE, -1);
@@ -149,6 +153,8 @@ public final class SoundTest {
         narrow(NARROW_SIZE, "return n == Integer.MIN_VALUE ? Integer.MAX_VALUE : (int) withoutSign(n);", Integer.MIN_VALUE);
         narrow(NARROW_SIZE, "return n == Integer.MIN_VALUE + 1 ? n : (int) withoutSign(n);", Integer.MIN_VALUE + 1);
         narrow(NARROW_SIZE, "return n == 5 ? 6 : (int) withoutSign(n);", 5);
+        narrow(NARROW_SIZE, "return n == -1 ? n : (int) withoutSign(n);", -1);
+        wide(SIZE, "return n == -1 ? n : n < 0 ? -n : n;", -1);
         wide(SIZE, "return n;", -3);
         wide(SIZE, "return n == Long.MIN_VALUE ? Long.MAX_VALUE : n < 0 ? -n : n;", Long.MIN_VALUE);
         wide(SIZE, "return n == Long.MIN_VALUE + 1 ? n : n < 0 ? -n : n;", Long.MIN_VALUE + 1);

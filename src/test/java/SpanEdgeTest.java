@@ -449,7 +449,10 @@ public final class SpanEdgeTest {
             {WIDE_LEAST, WIDE_LEAST, "85070591730234615865843651857942052864"},
             {WIDE_LEAST, WIDE_GREATEST, "-85070591730234615856620279821087277056"},
             {WIDE_GREATEST, WIDE_GREATEST, "85070591730234615847396907784232501249"},
-            {1L << 62, 4L, "18446744073709551616"}, {WIDE_LEAST, 2L, "-18446744073709551616"}
+            {1L << 62, 4L, "18446744073709551616"}, {WIDE_LEAST, 2L, "-18446744073709551616"},
+            // Ten times a power of two: but for one place in the middle, all that is left of it is 0.
+            {1L << 16, 5L << 17, "42949672960"}, {1L << 33, 5L << 32, "184467440737095516160"},
+            {1L << 48, -5L << 49, "-792281625142643375935439503360"}
         };
         for (Object[] row : rows) {
             Edgecount house = Calls.wides((Long) row[0], (Long) row[1]);
