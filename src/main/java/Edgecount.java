@@ -28,6 +28,11 @@ public final class Edgecount {
     private static final long WEEK = 7;
     private static final long DAY = 1440;
 
+    private static final int LEAST_NARROW = -2147483648;
+    private static final int GREATEST_NARROW = 2147483647;
+    private static final long LEAST_WIDE = -9223372036854775808L;
+    private static final long GREATEST_WIDE = 9223372036854775807L;
+
     private static final int LIMBS = 4;
     private static final int LIMB_BITS = 32;
     private static final long LIMB_MASK = 0xFFFFFFFFL;
@@ -613,7 +618,7 @@ public final class Edgecount {
             case REMAINDER:
                 return y != 0;
             default:
-                return x != Long.MIN_VALUE;
+                return x != LEAST_WIDE;
         }
     }
 
@@ -668,7 +673,7 @@ public final class Edgecount {
     }
 
     private boolean isNarrowCellSound(int n) {
-        if (!isSizeSound(narrowSize(n), n, Integer.MIN_VALUE) || !isNarrowKept(TURNED, n, 0, -(long) n)) {
+        if (!isSizeSound(narrowSize(n), n, LEAST_NARROW) || !isNarrowKept(TURNED, n, 0, -(long) n)) {
             return false;
         }
         for (int base = LEAST_BASE; base <= GREATEST_BASE; base++) {
@@ -690,7 +695,7 @@ public final class Edgecount {
     }
 
     private static boolean isNarrowKept(int what, int x, int y, long exact) {
-        if (!isWithin(exact, Integer.MIN_VALUE, Integer.MAX_VALUE)) {
+        if (!isWithin(exact, LEAST_NARROW, GREATEST_NARROW)) {
             return !isWrittenNarrow(what, x, y);
         }
         return isWrittenNarrow(what, x, y) && (int) outcome(what, x, y) == exact;
@@ -708,8 +713,8 @@ public final class Edgecount {
     }
 
     private static boolean isWideCellSound(long n) {
-        return isSizeSound(withoutSign(n), n, Long.MIN_VALUE)
-                && isWideKept(TURNED, n, 0, n >= -Long.MAX_VALUE, 0 - n);
+        return isSizeSound(withoutSign(n), n, LEAST_WIDE)
+                && isWideKept(TURNED, n, 0, n >= -GREATEST_WIDE, 0 - n);
     }
 
     private boolean isWidePairSound(long x, long y) {
@@ -731,7 +736,7 @@ public final class Edgecount {
     }
 
     private static boolean isHalfOfWide(long n) {
-        return isWithin(n, Long.MIN_VALUE >> 1, Long.MAX_VALUE >> 1);
+        return isWithin(n, LEAST_WIDE >> 1, GREATEST_WIDE >> 1);
     }
 
     private static boolean isWideKept(int what, long x, long y, boolean isInSpan, long exact) {
@@ -747,8 +752,8 @@ public final class Edgecount {
         }
         long quotient = outcome(QUOTIENT, x, y);
         long remainder = outcome(REMAINDER, x, y);
-        if (x == Long.MIN_VALUE && y == -1) {
-            return quotient == Long.MIN_VALUE && remainder == 0;
+        if (x == LEAST_WIDE && y == -1) {
+            return quotient == LEAST_WIDE && remainder == 0;
         }
         return isRemainderSound(remainder, y) && isMadeOf(x, quotient, y, remainder);
     }
@@ -758,7 +763,7 @@ public final class Edgecount {
         long lower = quotient * y;
         long sum = lower + remainder;
         // Taking LEAST off both compares them as numbers without a sign.
-        long carry = sum - Long.MIN_VALUE < lower - Long.MIN_VALUE ? 1 : 0;
+        long carry = sum - LEAST_WIDE < lower - LEAST_WIDE ? 1 : 0;
         return sum == n && upperHalf(quotient, y) + signHalf(remainder) + carry == signHalf(n);
     }
 

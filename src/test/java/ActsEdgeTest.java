@@ -251,10 +251,10 @@ public final class ActsEdgeTest {
             Calls.due(house, 20 + cell, "wide", cell);
         }
         for (int wrong : WRONG_CELLS) {
-            Calls.thrown(house, Calls.INDEX, "narrow", wrong);
-            Calls.thrown(house, Calls.INDEX, "wide", wrong);
-            Calls.thrown(house, Calls.INDEX, "put", wrong, 1);
-            Calls.thrown(house, Calls.INDEX, "putWide", wrong, 1, 1);
+            Calls.thrown(filled(), Calls.INDEX, "narrow", wrong);
+            Calls.thrown(filled(), Calls.INDEX, "wide", wrong);
+            Calls.thrown(filled(), Calls.INDEX, "put", wrong, 1);
+            Calls.thrown(filled(), Calls.INDEX, "putWide", wrong, 1, 1);
         }
     }
 

@@ -3,6 +3,7 @@ import java.lang.reflect.Method;
 import java.lang.reflect.Modifier;
 import java.util.Arrays;
 import java.util.Map;
+import java.util.Set;
 import java.util.TreeMap;
 
 /** Makes calls on a house by name, and counts the answers that are not due. */
@@ -26,6 +27,10 @@ final class Calls {
             }
         }
         return found;
+    }
+
+    static Set<String> names() {
+        return FACE.keySet();
     }
 
     static Method method(String name) {

@@ -25,9 +25,11 @@ public final class DigestEdgeTest {
         return d * 31 + v;
     }
 
+    /** Some 200 calls, so that one house is looked at twice at most: it has 512. */
     private static void check(Edgecount house) {
-        Calls.due(house, counted(house), "digest");
-        Calls.due(house, counted(house), "digest");
+        long want = counted(house);
+        Calls.due(house, want, "digest");
+        Calls.due(house, want, "digest");
     }
 
     private static long counted(Edgecount house) {
@@ -73,29 +75,49 @@ public final class DigestEdgeTest {
 
     /** house() of 0 to 2 */
     private static void stepsRefusalsKnocks() {
-        Edgecount house = Calls.narrows(1, 2, 3, 4, 5, 6);
         for (int often = 0; often < 4; often++) {
-            house.put(0, often);
-            house.strike();
-            check(house);
-            house.knock();
-            check(house);
+            check(used(often, often, often));
+            check(used(often, often, often + 1));
+            check(used(often, often + 1, often));
+            check(used(often + 5, often, often));
         }
+        Edgecount house = used(4, 3, 2);
         house.undo();
         check(house);
     }
 
+    private static Edgecount used(int steps, int refusals, int knocks) {
+        Edgecount house = new Edgecount();
+        for (int often = 0; often < steps; often++) {
+            house.put(often % 6, often);
+        }
+        for (int often = 0; often < refusals; often++) {
+            house.strike();
+        }
+        for (int often = 0; often < knocks; often++) {
+            house.knock();
+        }
+        return house;
+    }
+
     /** each ENTRY of the DRAFT: none, one, 20 */
     private static void entriesOfTheDraft() {
-        Edgecount house = new Edgecount();
-        for (int k = 0; k < 20; k++) {
-            house.enter(k % 2 == 0 ? LEAST + k : GREATEST - k);
-            check(house);
+        for (int count = 0; count <= 20; count++) {
+            check(drafted(count));
         }
+        Edgecount house = drafted(20);
         house.strike();
         check(house);
         house.undo();
         check(house);
+    }
+
+    private static Edgecount drafted(int count) {
+        Edgecount house = new Edgecount();
+        for (int k = 0; k < count; k++) {
+            house.enter(k % 2 == 0 ? LEAST + k : GREATEST - k);
+        }
+        return house;
     }
 
     /** which() */

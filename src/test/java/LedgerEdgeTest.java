@@ -99,7 +99,7 @@ public final class LedgerEdgeTest {
         for (int left = MOST - 1; left >= 0; left--) {
             Calls.step(house, left, "strike");
             Calls.due(house, left, "ledger", 1);
-            Calls.thrown(house, Calls.INDEX, "draft", left);
+            Calls.due(house, Calls.INDEX, "draft", left);
             if (left > 0) {
                 Calls.due(house, left - 1, "draft", left - 1);
             }
@@ -304,10 +304,10 @@ public final class LedgerEdgeTest {
         for (int k : new int[] {LEAST, -1, 0, 1, 19, 20, GREATEST}) {
             Calls.thrown(new Edgecount(), Calls.INDEX, "draft", k);
         }
-        Edgecount full = Calls.drafted(row(MOST, 1, 2));
         for (int k : new int[] {LEAST, -1, 20, 21, GREATEST}) {
-            Calls.thrown(full, Calls.INDEX, "draft", k);
+            Calls.thrown(Calls.drafted(row(MOST, 1, 2)), Calls.INDEX, "draft", k);
         }
+        Edgecount full = Calls.drafted(row(MOST, 1, 2));
         Calls.due(full, 1, "draft", 0);
         Calls.due(full, 2, "draft", 19);
     }

@@ -1,5 +1,6 @@
 import java.util.Arrays;
 import java.util.Random;
+import java.util.TreeSet;
 
 /** Long runs of calls, the same ones each time, on a house and on the model side by side. */
 public final class ModelTest {
@@ -25,6 +26,7 @@ public final class ModelTest {
     }
 
     public static void main(String[] args) {
+        allOfTheFace();
         for (int run = 0; run < RUNS; run++) {
             new ModelTest(run).compare(run);
         }
@@ -32,17 +34,23 @@ public final class ModelTest {
         Calls.end();
     }
 
+    /** The calls of all promises are mixed: no method of the face is left out. */
+    private static void allOfTheFace() {
+        Calls.same("the methods that are called", new TreeSet<>(Arrays.asList(NAMES)), Calls.names());
+    }
+
     private void compare(int run) {
         Edgecount house = new Edgecount();
         Model model = new Model();
         // Every other run keeps to small numbers, so that acts are less often REFUSED.
         boolean isSmall = run % 2 == 1;
-        for (int i = 0; i < CALLS; i++) {
+        for (int i = 1; i < CALLS; i++) {
             String name = NAMES[random.nextInt(NAMES.length)];
             Object[] args = arguments(name, isSmall);
             String told = Calls.answer(house, name, args);
             Calls.same("run " + run + " call " + i + " " + name + Arrays.toString(args), told, model.answer(name, args));
         }
+        // The call 512 is the last one of which anything is promised.
         Calls.same("run " + run + " digest", house.digest(), model.answer("digest"));
     }
 

@@ -15,7 +15,7 @@ import javax.tools.ToolProvider;
  */
 public final class SoundTest {
     private static final JavaCompiler COMPILER = ToolProvider.getSystemJavaCompiler();
-    private static final Path SOURCE = Path.of(System.getProperty("edgecount.source", "src/main/java/Edgecount.java"));
+    private static final Path SOURCE = Path.of(System.getProperty("edgecount.root", "."), "src/main/java/Edgecount.java");
 
     private static final String QUOTIENT = "return y == 0 ? 0 : Math.floorDiv(x, y);";
     private static final String REMAINDER = "return y == 0 ? 0 : Math.floorMod(x, y);";
@@ -23,7 +23,7 @@ public final class SoundTest {
     private static final String WIDE_SUM = "return ((x ^ n) & (y ^ n)) >= 0;";
     private static final String WIDE_DIFFERENCE = "return ((x ^ y) & (x ^ n)) >= 0;";
     private static final String WIDE_PRODUCT = "return upperHalf(x, y) == signHalf(n);";
-    private static final String WIDE_TURNED = "return x != Long.MIN_VALUE;";
+    private static final String WIDE_TURNED = "return x != LEAST_WIDE;";
     private static final String TURNED = "return -x;";
     private static final String SIZE = "return n < 0 ? -n : n;";
     private static final String NARROW_SIZE = "return (int) withoutSign(n);";

@@ -75,29 +75,42 @@ public final class UndoEdgeTest {
 
     /** Each act on cells (put and putWide, too), horner, enter, strike and book is a STEP */
     private static void eachOfThemIsAStep() {
-        Edgecount house = new Edgecount();
         for (int i = 0; i < STEPS.length; i++) {
+            Edgecount house = behind(i);
             String call = Arrays.toString(STEPS[i]);
             int before = house.house(0);
             String seen = lying(house);
             String told = make(house, STEPS[i]);
-            Calls.same(call + " is not REFUSED", told.equals("-9") || told.startsWith("throws."), false);
+            Calls.same(call + " is REFUSED", told.equals("-9") || told.startsWith("throws."), false);
             Calls.same(call + " is a STEP", house.house(0), Math.min(MOST, before + 1));
             Calls.same(call + " undone", house.undo(), Math.min(MOST, before + 1) - 1);
             Calls.same(call + " undone, then what lies", lying(house), seen);
+            Calls.due(house, 0, "house", 1);
+        }
+    }
+
+    /** A house behind the first so many of the STEPS. */
+    private static Edgecount behind(int count) {
+        Edgecount house = new Edgecount();
+        for (int i = 0; i < count; i++) {
             make(house, STEPS[i]);
         }
-        Calls.due(house, 0, "house", 1);
+        return house;
     }
 
     /** .. and nothing else is one: what only tells, knocking, undoing. */
     private static void readingIsNoStep() {
+        for (Object[] call : READINGS) {
+            Edgecount read = Calls.drafted(4, 5);
+            read.put(0, 3);
+            String before = Calls.sight(read);
+            Calls.same(Arrays.toString(call) + " throws", make(read, call).startsWith("throws."), false);
+            Calls.same(Arrays.toString(call) + " then what is seen", Calls.sight(read), before);
+        }
         Edgecount house = Calls.drafted(4, 5);
         house.put(0, 3);
         for (Object[] call : READINGS) {
-            String before = Calls.sight(house);
-            Calls.same(Arrays.toString(call) + " throws", make(house, call).startsWith("throws."), false);
-            Calls.same(Arrays.toString(call) + " then what is seen", Calls.sight(house), before);
+            make(house, call);
         }
         house.knock();
         Calls.due(house, 3, "house", 0);
@@ -399,21 +412,21 @@ public final class UndoEdgeTest {
             {"enter", 1}, {"horner", 6, 1}, {"horner", 0, 37}, {"weekday", 7, 1}, {"weeks", -1, 1}, {"clock", 1440, 1},
             {"daysOn", -1, 1}, {"page", 1, 0, 1, 1}, {"digits", 1, -11}, {"digit", 1, -2, 41}, {"house", 3}
         };
-        Edgecount house = new Edgecount();
-        for (int k = 0; k < 20; k++) {
-            house.enter(k);
-        }
-        house.strike();
-        house.enter(40);
         for (Object[] call : calls) {
+            Edgecount house = new Edgecount();
+            for (int k = 0; k < 20; k++) {
+                house.enter(k);
+            }
+            house.strike();
+            house.enter(40);
             String before = Calls.sight(house);
             Calls.same(Arrays.toString(call) + " throws", make(house, call).startsWith("throws.I"), true);
             Calls.same(Arrays.toString(call) + " then what is seen", Calls.sight(house), before);
+            Calls.due(house, 7, "undo");
+            Calls.due(house, 19, "ledger", 1);
+            Calls.due(house, 6, "undo");
+            Calls.due(house, 19, "draft", 19);
         }
-        Calls.due(house, 7, "undo");
-        Calls.due(house, 19, "ledger", 1);
-        Calls.due(house, 6, "undo");
-        Calls.due(house, 19, "draft", 19);
     }
 
     /** Creates a house in whose cells lies 0: whatever another one holds. */
